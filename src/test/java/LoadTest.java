@@ -1,0 +1,313 @@
+/** Promises 12, 15 and 16 about loading: blocks, transfers, results and the image. */
+public final class LoadTest {
+    public static void main(String[] args) {
+        severalEntries();
+        fileOfWholeBlocks();
+        emptyList();
+        results();
+        noAnswer();
+        laterBlocksAreNotReadAgain();
+        transferIsRepeatedAndGivenUp();
+        aNewReadBeginsAgain();
+        blockGrowsBetweenTries();
+        doubledDataAndGot();
+        loadingBeginsAgainAfterTheAddressIsLost();
+        loadedOnceIsEnough();
+        imageRefuses();
+        Due.end();
+    }
+
+    private static BootNet net(int lease, int limit, int size) {
+        BootNet x = new BootNet(lease, limit, size);
+        x.pool(0, 1, 9);
+        x.attach(0);
+        return x;
+    }
+
+    private static void severalEntries() {
+        BootNet x = new BootNet(40, 3, 5);
+        x.pool(2, 4, 4);
+        x.attach(2);
+        Nets.putAll(x, 3, 250, 251, 252, 253, 254, 255);
+        Nets.putAll(x, 1, 9);
+        x.entry(3, 6, x.check(3));
+        x.entry(1, 1, x.check(1));
+        x.entry(3, 6, x.check(3));
+        Nets.bind(x, 0);
+        Nets.message(x, "12: READ", 0, 8, 0, 0, 3, 0, 0, 0);
+        x.deliver(0);
+        x.deliver(0);
+        Nets.message(x, "14: DATA goes over the relay", 0, 9, 0, 0, 3, 1, 5, 1);
+        x.deliver(0);
+        Nets.message(x, "14: with its bytes", 0, 9, 0, 0, 3, 1, 5, 0);
+        x.deliver(0);
+        Nets.message(x, "10: GOT", 0, 10, 0, 0, 3, 1, 0, 0);
+        Nets.station(x, "15: bytes of the entry", 0, Nets.BYTES, 5);
+        Due.is("16: byte 4", x.image(0, 4), 254);
+        Due.is("16: byte 5 is not there", x.image(0, 5), BootNet.NONE);
+        Nets.settle(x);
+        Nets.station(x, "15: all is loaded", 0, Nets.RESULT, 2);
+        Nets.station(x, "15: at the last entry", 0, Nets.ENTRY, 2);
+        Nets.station(x, "15: with its bytes", 0, Nets.BYTES, 6);
+        int[] want = {250, 251, 252, 253, 254, 255, 9, 250, 251, 252, 253, 254, 255, BootNet.NONE};
+        for (int k = 0; k < want.length; k++) {
+            Due.is("16: byte " + k, x.image(0, k), want[k]);
+        }
+        Nets.ticks(x, 12);
+        Due.is("12: no transfer is left", Nets.underWay(x), 0);
+    }
+
+    private static void fileOfWholeBlocks() {
+        for (int size = 4; size <= 12; size++) {
+            BootNet x = net(60, 3, size);
+            Nets.putCounting(x, 0, 40);
+            x.entry(0, 40, x.check(0));
+            Nets.bind(x, 0);
+            int blocks = 0;
+            int last = -1;
+            for (int i = 0; i < 100 && x.deliver(0) != BootNet.NONE; i++) {
+                if (x.message(0, 0) == 9) {
+                    blocks++;
+                    last = x.message(0, 5);
+                }
+            }
+            Due.is("10: blocks of " + size, blocks, 40 / size + 1);
+            Due.is("14: bytes of the last", last, 40 % size);
+            Nets.station(x, "15: size " + size, 0, Nets.RESULT, 2);
+            Due.is("16: the last byte", x.image(0, 39), 39);
+        }
+    }
+
+    private static void emptyList() {
+        BootNet x = net(20, 3, 4);
+        x.boot(0);
+        Nets.settle(x);
+        Nets.ticks(x, 2);
+        Nets.station(x, "12: probing", 0, Nets.STATE, 3);
+        Nets.station(x, "12: nothing yet", 0, Nets.RESULT, 0);
+        Due.is("12: nothing is sent", x.tick(), 0);
+        Nets.station(x, "12: bound", 0, Nets.STATE, 4);
+        Nets.station(x, "12: all is loaded", 0, Nets.RESULT, 2);
+    }
+
+    private static int resultOf(int length, int checkOff, boolean put, int size) {
+        BootNet x = net(40, 3, size);
+        if (put) {
+            Nets.putAll(x, 2, 5, 6, 7, 8);
+        }
+        x.entry(2, length, x.check(2) + checkOff);
+        Nets.bind(x, 0);
+        Nets.station(x, "12: loading", 0, Nets.RESULT, 1);
+        Nets.settle(x);
+        return x.station(0, Nets.RESULT);
+    }
+
+    private static void results() {
+        Due.is("15: right", resultOf(4, 0, true, 5), 2);
+        Due.is("15: right, with an empty block", resultOf(4, 0, true, 4), 2);
+        Due.is("15: no file", resultOf(4, 0, false, 5), 3);
+        Due.is("15: no file, though it would be empty", resultOf(0, 0, false, 5), 3);
+        Due.is("15: too short", resultOf(5, 0, true, 5), 4);
+        Due.is("15: too long", resultOf(3, 0, true, 4), 4);
+        Due.is("15: length goes before check", resultOf(3, 1, true, 5), 4);
+        Due.is("15: another check", resultOf(4, 1, true, 5), 5);
+        BootNet x = net(40, 3, 4);
+        x.entry(1, 0, 0);
+        Nets.bind(x, 0);
+        x.deliver(0);
+        Nets.message(x, "14: ERROR", 0, 11, 0, 0, 1, 0, 0, 0);
+        x.alter(0, true);
+        x.deliver(0);
+        x.boot(0);
+        x.deliver(0);
+        Nets.station(x, "10: ERROR without an address", 0, Nets.RESULT, 0);
+    }
+
+    private static void noAnswer() {
+        BootNet x = net(60, 3, 4);
+        x.put(0, 1);
+        x.entry(0, 1, x.check(0));
+        Nets.bind(x, 0);
+        Nets.loseAll(x);
+        Nets.ticks(x, 2);
+        Due.is("12: READ again", x.tick(), 1);
+        Nets.message(x, "12: READ again", 0, 8, 0, 0, 0, 0, 0, 0);
+        Nets.ticks(x, 2);
+        Due.is("12: and again", x.tick(), 2);
+        Nets.ticks(x, 2);
+        Nets.station(x, "12: loading still", 0, Nets.RESULT, 1);
+        Due.is("12: not a fourth time", x.tick(), 2);
+        Nets.station(x, "12: no answer", 0, Nets.RESULT, 6);
+        Nets.station(x, "12: bound still", 0, Nets.STATE, 4);
+        Nets.settle(x);
+        Nets.station(x, "10: DATA comes too late", 0, Nets.RESULT, 6);
+        Nets.station(x, "10: no bytes", 0, Nets.BYTES, 0);
+    }
+
+    private static void laterBlocksAreNotReadAgain() {
+        BootNet x = net(60, 2, 4);
+        Nets.putCounting(x, 0, 6);
+        x.entry(0, 6, x.check(0));
+        Nets.bind(x, 0);
+        x.deliver(0);
+        x.deliver(0);
+        Nets.loseAll(x);
+        Due.is("12: waits", x.tick(), 0);
+        x.crash();
+        Nets.ticks(x, 2);
+        Due.is("12: no READ at block 2", Nets.underWay(x), 0);
+        Nets.station(x, "12: loading still", 0, Nets.RESULT, 1);
+        Nets.ticks(x, 3);
+        Nets.station(x, "12: no answer", 0, Nets.RESULT, 6);
+        Nets.station(x, "12: the bytes stay", 0, Nets.BYTES, 4);
+        Due.is("16: they can be seen", x.image(0, 3), 3);
+    }
+
+    private static void transferIsRepeatedAndGivenUp() {
+        BootNet x = net(60, 3, 4);
+        x.attach(0);
+        Nets.putCounting(x, 0, 5);
+        x.entry(0, 5, x.check(0));
+        Nets.bind(x, 0);
+        x.deliver(0);
+        x.deliver(0);
+        x.deliver(0);
+        Nets.message(x, "10: block 2", 0, 9, 0, 0, 0, 2, 1, 0);
+        Nets.loseAll(x);
+        Nets.ticks(x, 2);
+        Due.is("12: block 2 again", x.tick(), 1);
+        Nets.message(x, "12: block 2 again", 0, 9, 0, 0, 0, 2, 1, 0);
+        Nets.loseAll(x);
+        Nets.ticks(x, 2);
+        Due.is("12: a third time", x.tick(), 1);
+        Nets.loseAll(x);
+        Nets.ticks(x, 3);
+        Due.is("12: the transfer is gone", Nets.underWay(x), 0);
+        Nets.ticks(x, 3);
+        Due.is("12: for good", Nets.underWay(x), 0);
+    }
+
+    private static void aNewReadBeginsAgain() {
+        BootNet x = net(60, 2, 4);
+        Nets.putCounting(x, 0, 5);
+        x.entry(0, 5, x.check(0));
+        Nets.bind(x, 0);
+        x.alter(0, true);
+        x.deliver(0);
+        x.tick();
+        x.deliver(0);
+        Due.is("10: two blocks 1", Nets.underWay(x), 2);
+        Nets.loseAll(x);
+        x.tick();
+        Due.is("12: due from the second READ on; READ again", x.tick(), 1);
+        Due.is("12: block 1 again", x.tick(), 2);
+        Nets.message(x, "12: READ", 0, 8);
+        Nets.message(x, "12: DATA", 1, 9, 0, 0, 0, 1, 4);
+        Nets.loseAll(x);
+        Nets.ticks(x, 3);
+        Due.is("12: tries were 2", Nets.underWay(x), 0);
+    }
+
+    private static void blockGrowsBetweenTries() {
+        BootNet x = net(60, 3, 4);
+        Nets.putAll(x, 0, 1, 2, 3);
+        x.put(1, 0);
+        x.entry(0, 3, x.check(0));
+        Nets.bind(x, 0);
+        x.deliver(0);
+        Due.is("14: three bytes", x.message(0, 5), 3);
+        x.put(0, 4);
+        Due.is("14: what is under way stays", x.message(0, 5), 3);
+        Nets.ticks(x, 3);
+        Due.is("14: READ again, block again with four bytes", x.message(2, 5), 4);
+        x.deliver(0);
+        Nets.station(x, "10: three bytes came", 0, Nets.RESULT, 2);
+        Due.is("10: GOT", x.message(2, 0), 10);
+        x.deliver(2);
+        Nets.message(x, "10: the block was full when it was sent last", 2, 9, 0, 0, 0, 2, 0, 0);
+    }
+
+    private static void doubledDataAndGot() {
+        BootNet x = net(60, 3, 4);
+        Nets.putCounting(x, 0, 9);
+        x.entry(0, 9, x.check(0));
+        Nets.bind(x, 0);
+        x.deliver(0);
+        x.alter(0, true);
+        x.deliver(0);
+        Due.is("10: DATA again", x.deliver(0), 9);
+        Nets.station(x, "10: does nothing", 0, Nets.BYTES, 4);
+        Due.is("10: one GOT", Nets.underWay(x), 1);
+        x.alter(0, true);
+        x.deliver(0);
+        Due.is("10: GOT again", x.deliver(0), 10);
+        Due.is("10: does nothing", Nets.underWay(x), 1);
+        Nets.message(x, "10: block 2", 0, 9, 0, 0, 0, 2, 4, 0);
+        Nets.settle(x);
+        Nets.station(x, "15: all is loaded", 0, Nets.RESULT, 2);
+    }
+
+    private static void loadingBeginsAgainAfterTheAddressIsLost() {
+        BootNet x = net(8, 5, 4);
+        x.put(1, 33);
+        Nets.putCounting(x, 0, 9);
+        x.entry(1, 1, x.check(1));
+        x.entry(0, 9, x.check(0));
+        Nets.bind(x, 0);
+        for (int i = 0; i < 5; i++) {
+            x.deliver(0);
+        }
+        Nets.station(x, "15: second entry", 0, Nets.ENTRY, 1);
+        Nets.station(x, "15: its bytes", 0, Nets.BYTES, 4);
+        Nets.loseAll(x);
+        Nets.ticks(x, 5);
+        Nets.station(x, "12: the lease is over", 0, Nets.STATE, 1);
+        Nets.station(x, "12: loading is nothing", 0, Nets.RESULT, 0);
+        Nets.station(x, "15: the entry stays", 0, Nets.ENTRY, 1);
+        Nets.station(x, "15: the bytes stay", 0, Nets.BYTES, 4);
+        Due.is("16: they can be seen", x.image(0, 4), 3);
+        x.crash();
+        Nets.settle(x);
+        Nets.ticks(x, 3);
+        Nets.station(x, "12: bound again", 0, Nets.STATE, 4);
+        Nets.station(x, "12: loading again", 0, Nets.RESULT, 1);
+        Nets.station(x, "12: from the first entry", 0, Nets.ENTRY, 0);
+        Nets.station(x, "12: without bytes", 0, Nets.BYTES, 0);
+        Due.is("16: none", x.image(0, 0), BootNet.NONE);
+        Nets.settle(x);
+        Nets.station(x, "15: all is loaded", 0, Nets.RESULT, 2);
+        Due.is("16: first", x.image(0, 0), 33);
+        Due.is("16: last", x.image(0, 9), 8);
+    }
+
+    private static void loadedOnceIsEnough() {
+        BootNet x = net(8, 5, 4);
+        x.put(0, 1);
+        x.entry(0, 1, x.check(0));
+        Nets.bind(x, 0);
+        Nets.settle(x);
+        Nets.ticks(x, 5);
+        Nets.station(x, "12: selecting", 0, Nets.STATE, 1);
+        Nets.station(x, "12: the result stays", 0, Nets.RESULT, 2);
+        x.put(0, 2);
+        Nets.settle(x);
+        Nets.ticks(x, 3);
+        Nets.station(x, "12: bound again", 0, Nets.STATE, 4);
+        Nets.station(x, "12: loaded already", 0, Nets.RESULT, 2);
+    }
+
+    private static void imageRefuses() {
+        BootNet x = net(40, 3, 4);
+        x.put(0, 200);
+        x.entry(0, 1, x.check(0));
+        Due.is("16: before", x.image(0, 0), BootNet.NONE);
+        Nets.bind(x, 0);
+        Nets.settle(x);
+        Due.is("16: byte 0", x.image(0, 0), 200);
+        int[] wrong = {Integer.MIN_VALUE, -1, 1, 1000, Integer.MAX_VALUE};
+        for (int w : wrong) {
+            Due.is("16: k " + w, x.image(0, w), BootNet.NONE);
+            Due.is("16: station " + w, x.image(w, 0), BootNet.NONE);
+        }
+    }
+}
