@@ -10,7 +10,10 @@ public final class AddressTest {
         leasedAddressComesFirst();
         requestIsRefused();
         requestingTriesAgain();
-        conflictWithAStation();
+        conflictWithAStation(0, 1);
+        conflictWithAStation(1, 0);
+        lateDeclineBarsAgain();
+        declineOfAnothersLease();
         conflictsUpToTheLimit();
         renewing();
         rebinding();
@@ -195,33 +198,80 @@ public final class AddressTest {
     }
 
     /** A PROBE that is long under way comes when another station has got the address. */
-    private static void conflictWithAStation() {
+    private static void conflictWithAStation(int first, int second) {
         BootNet x = net(8, 5, 2, 1);
-        x.boot(0);
+        x.boot(first);
         for (int i = 0; i < 4; i++) {
             x.deliver(0);
         }
-        Nets.message(x, "10: PROBE", 0, 6, 0, 0, 1, 0, 0, 0);
+        Nets.message(x, "10: PROBE", 0, 6, first, 0, 1, 0, 0, 0);
         x.alter(0, true);
         x.alter(0, true);
         Nets.ticks(x, 3);
-        Nets.station(x, "12: holds", 0, Nets.STATE, 4);
+        Nets.station(x, "12: holds", first, Nets.STATE, 4);
         Due.is("10: PROBE of the holder itself", x.deliver(0), 6);
         Due.is("10: nobody else is there", Nets.underWay(x), 2);
         Nets.ticks(x, 5);
         Nets.loseFrom(x, 2);
-        x.boot(1);
+        x.boot(second);
         for (int i = 0; i < 4; i++) {
             x.deliver(2);
         }
-        Nets.station(x, "10: the other probes", 1, Nets.STATE, 3);
+        Nets.station(x, "10: the other probes", second, Nets.STATE, 3);
         Due.is("10: PROBE", x.deliver(0), 6);
         Due.is("10: who probes does not hold", x.message(2, 0), BootNet.NONE);
         x.alter(1, false);
         Nets.ticks(x, 3);
-        Nets.station(x, "12: the other holds it", 1, Nets.STATE, 4);
+        Nets.station(x, "12: the other holds it", second, Nets.STATE, 4);
         Due.is("10: PROBE", x.deliver(0), 6);
-        Nets.message(x, "10: HERE is for the one that probed", Nets.underWay(x) - 1, 7, 0, 0, 1, 0, 0, 0);
+        Nets.message(x, "10: HERE is for the one that probed", Nets.underWay(x) - 1, 7, first, 0, 1, 0, 0, 0);
+    }
+
+    /** The station has the address again when its DECLINE arrives: renewing is refused then. */
+    private static void lateDeclineBarsAgain() {
+        for (int ticks = 7; ticks <= 15; ticks += 8) {
+            BootNet x = net(20, 3, 1, 2);
+            x.stranger(1, true);
+            x.boot(0);
+            for (int i = 0; i < 6; i++) {
+                x.deliver(0);
+            }
+            x.stranger(1, false);
+            Due.is("10: DECLINE waits", x.message(0, 0), 5);
+            for (int i = 0; i < 5; i++) {
+                x.deliver(1);
+            }
+            Nets.ticks(x, 3 + ticks);
+            Nets.station(x, "12: has it again", 0, Nets.ADDRESS, 1);
+            Nets.station(x, "12: renewing or rebinding", 0, Nets.STATE, ticks == 7 ? 5 : 6);
+            Due.is("10: DECLINE", x.deliver(0), 5);
+            Due.is("17: barred", x.lease(1, 3), 3 + ticks + 20);
+            int last = Nets.underWay(x) - 1;
+            Due.is("10: REQUEST", x.deliver(last), 2);
+            Due.is("10: NAK", x.deliver(last), 4);
+            Nets.station(x, "10: selects", 0, Nets.STATE, 1);
+            x.deliver(last);
+            Nets.message(x, "10: a barred one is not offered", last, 1, 0, x.station(0, Nets.NUMBER), 2);
+        }
+    }
+
+    private static void declineOfAnothersLease() {
+        BootNet x = net(8, 3, 2, 1);
+        x.stranger(1, true);
+        x.boot(0);
+        for (int i = 0; i < 6; i++) {
+            x.deliver(0);
+        }
+        Nets.loseFrom(x, 1);
+        Nets.ticks(x, 8);
+        Nets.loseFrom(x, 1);
+        x.boot(1);
+        for (int i = 0; i < 3; i++) {
+            x.deliver(1);
+        }
+        Due.is("17: leased to the other", x.lease(1, 0), 1);
+        Due.is("10: DECLINE of the one before", x.deliver(0), 5);
+        Due.is("17: not barred", x.lease(1, 3), BootNet.NONE);
     }
 
     private static void conflictsUpToTheLimit() {

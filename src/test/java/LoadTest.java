@@ -3,6 +3,7 @@ public final class LoadTest {
     public static void main(String[] args) {
         severalEntries();
         fileOfWholeBlocks();
+        fourFullFiles();
         emptyList();
         results();
         noAnswer();
@@ -76,6 +77,22 @@ public final class LoadTest {
             Nets.station(x, "15: size " + size, 0, Nets.RESULT, 2);
             Due.is("16: the last byte", x.image(0, 39), 39);
         }
+    }
+
+    private static void fourFullFiles() {
+        BootNet x = net(60, 3, 12);
+        for (int file = 0; file < 4; file++) {
+            Nets.putCounting(x, file, 40);
+            x.entry(file, 40, x.check(file));
+        }
+        Nets.bind(x, 0);
+        Nets.settle(x);
+        Nets.station(x, "15: all is loaded", 0, Nets.RESULT, 2);
+        Nets.station(x, "15: at the last entry", 0, Nets.ENTRY, 3);
+        for (int k = 0; k < 160; k++) {
+            Due.is("16: byte " + k, x.image(0, k), k % 40);
+        }
+        Due.is("16: no more", x.image(0, 160), BootNet.NONE);
     }
 
     private static void emptyList() {
