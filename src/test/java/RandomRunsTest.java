@@ -1,8 +1,10 @@
 import java.util.Random;
 
 /**
- * Runs of up to 512 random calls, on the class and on the plain model at once: every answer and all
+ * Runs of 512 random calls, on the class and on the plain model at once: every answer and all
  * that can be asked afterwards must be the same. The seeds are fixed, so a run that fails fails again.
+ * What is asked in between takes an object beyond the 512 calls that the document speaks of; the class
+ * knows no such bound, so the answers are compared all the same.
  */
 public final class RandomRunsTest {
     private static final int RUNS = 1200;
