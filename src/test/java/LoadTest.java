@@ -14,7 +14,6 @@ public final class LoadTest {
         doubledDataAndGot();
         loadingBeginsAgainAfterTheAddressIsLost();
         loadedOnceIsEnough();
-        imageRefuses();
         Due.end();
     }
 
@@ -311,20 +310,5 @@ public final class LoadTest {
         Nets.ticks(x, 3);
         Nets.station(x, "12: bound again", 0, Nets.STATE, 4);
         Nets.station(x, "12: loaded already", 0, Nets.RESULT, 2);
-    }
-
-    private static void imageRefuses() {
-        BootNet x = net(40, 3, 4);
-        x.put(0, 200);
-        x.entry(0, 1, x.check(0));
-        Due.is("16: before", x.image(0, 0), BootNet.NONE);
-        Nets.bind(x, 0);
-        Nets.settle(x);
-        Due.is("16: byte 0", x.image(0, 0), 200);
-        int[] wrong = {Integer.MIN_VALUE, -1, 1, 1000, Integer.MAX_VALUE};
-        for (int w : wrong) {
-            Due.is("16: k " + w, x.image(0, w), BootNet.NONE);
-            Due.is("16: station " + w, x.image(w, 0), BootNet.NONE);
-        }
     }
 }

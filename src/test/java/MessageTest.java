@@ -1,14 +1,10 @@
 /** Promises 10, 11 and 14: the row of messages, the relay, loss and copies. */
 public final class MessageTest {
     public static void main(String[] args) {
-        deliverRefuses();
         anyMessageCanArrive();
         relayBothWays();
         alterLoses();
         alterDoubles();
-        rowIsFull();
-        relayWorksInAFullRow();
-        messageRefuses();
         Due.end();
     }
 
@@ -20,17 +16,6 @@ public final class MessageTest {
             x.boot(i);
         }
         return x;
-    }
-
-    private static void deliverRefuses() {
-        BootNet x = net(0, 2);
-        int[] wrong = {Integer.MIN_VALUE, -1, 2, 32, Integer.MAX_VALUE};
-        for (int k : wrong) {
-            Due.is("10: k " + k, x.deliver(k), BootNet.NONE);
-            Due.no("11: k " + k, x.alter(k, false));
-            Due.no("11: k " + k + " twice", x.alter(k, true));
-            Due.is("10: all are there", Nets.underWay(x), 2);
-        }
     }
 
     private static void anyMessageCanArrive() {
@@ -99,43 +84,5 @@ public final class MessageTest {
         x.deliver(0);
         Nets.station(x, "11: the copy has the bytes", 0, Nets.RESULT, 2);
         Due.is("16: the last byte", x.image(0, 2), 2);
-    }
-
-    private static void rowIsFull() {
-        BootNet x = net(0, 2);
-        for (int i = 2; i < 32; i++) {
-            Due.yes("11: copy " + i, x.alter(i % 2, true));
-        }
-        Due.no("11: 32 are there", x.alter(0, true));
-        Due.is("11: 32", Nets.underWay(x), 32);
-        Due.is("14: no 33rd", x.message(32, 0), BootNet.NONE);
-        Due.is("12: what is sent is lost", (x.tick() + x.tick() + x.tick()) / 3, 32);
-        Nets.station(x, "12: tried all the same", 0, Nets.STATE, 1);
-        Due.yes("9: boot", x.boot(0));
-        Due.is("9: lost too", Nets.underWay(x), 32);
-        Nets.station(x, "9: new number", 0, Nets.NUMBER, 3);
-        Due.yes("11: one is lost", x.alter(31, false));
-        Due.yes("11: there is room", x.alter(0, true));
-        Due.is("11: 32", Nets.underWay(x), 32);
-    }
-
-    private static void relayWorksInAFullRow() {
-        BootNet x = net(2, 1);
-        for (int i = 1; i < 32; i++) {
-            x.alter(0, true);
-        }
-        Due.is("10: to the relay", x.deliver(0), 0);
-        Due.is("10: 32 still", Nets.underWay(x), 32);
-        Nets.message(x, "10: at the end", 31, 0, 0, 1, 0, 0, 0, 1);
-    }
-
-    private static void messageRefuses() {
-        BootNet x = net(0, 1);
-        int[] wrong = {Integer.MIN_VALUE, -1, 7, Integer.MAX_VALUE};
-        for (int w : wrong) {
-            Due.is("14: what " + w, x.message(0, w), BootNet.NONE);
-            Due.is("14: k " + w, x.message(w, 0), BootNet.NONE);
-        }
-        Due.is("14: k 1", x.message(1, 0), BootNet.NONE);
     }
 }

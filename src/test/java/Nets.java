@@ -9,6 +9,10 @@ final class Nets {
     static final int ENTRY = 6;
     static final int BYTES = 7;
 
+    static final int[] ADDRESSES = {
+        1, 2, 3, 4, 5, 6, 7, 8, 9, 11, 12, 13, 14, 15, 16, 17, 18, 19, 21, 22, 23, 24, 25, 26, 27, 28, 29,
+    };
+
     private Nets() {
     }
 
@@ -61,6 +65,26 @@ final class Nets {
         x.boot(station);
         settle(x);
         ticks(x, 3);
+    }
+
+    /** The ints next to a range on both sides, and those at both ends of int. */
+    static int[] outside(int least, int most) {
+        return new int[] {
+            Integer.MIN_VALUE, Integer.MIN_VALUE + 1, least - 1, most + 1, Integer.MAX_VALUE - 1, Integer.MAX_VALUE,
+        };
+    }
+
+    static void deliver(BootNet x, int k, int times) {
+        for (int i = 0; i < times; i++) {
+            x.deliver(k);
+        }
+    }
+
+    /** Copies of message k are made until so many messages are under way. */
+    static void fillTo(BootNet x, int k, int count) {
+        for (int n = underWay(x); n < count; n++) {
+            x.alter(k, true);
+        }
     }
 
     /** Message k is as said: kind, station, number, address or file, block, how many bytes, leg. */
