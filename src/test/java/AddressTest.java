@@ -6,8 +6,6 @@ public final class AddressTest {
         bootInEveryState();
         numbersAreSharedByAll();
         offersAndTheirEnd();
-        onlyOneOfferEach();
-        leasedAddressComesFirst();
         requestIsRefused();
         requestingTriesAgain();
         conflictWithAStation(0, 1);
@@ -25,12 +23,7 @@ public final class AddressTest {
     }
 
     private static BootNet net(int lease, int limit, int stations, int high) {
-        BootNet x = new BootNet(lease, limit, 4);
-        x.pool(0, 1, high);
-        for (int i = 0; i < stations; i++) {
-            x.attach(0);
-        }
-        return x;
+        return Nets.net(lease, limit, 4, stations, high);
     }
 
     private static void bootSelects() {
@@ -121,33 +114,6 @@ public final class AddressTest {
         x.boot(1);
         x.deliver(0);
         Due.is("17: offered to the other", x.lease(1, 2), 1);
-    }
-
-    private static void onlyOneOfferEach() {
-        BootNet x = net(20, 3, 1, 9);
-        x.boot(0);
-        x.deliver(0);
-        x.reserve(0, 5);
-        x.boot(0);
-        x.deliver(1);
-        Due.is("17: the reserved one is offered now", x.lease(5, 2), 0);
-        Due.is("17: the other is not any more", x.lease(1, 2), BootNet.NONE);
-    }
-
-    private static void leasedAddressComesFirst() {
-        BootNet x = net(20, 3, 2, 9);
-        Nets.bind(x, 0);
-        Nets.bind(x, 1);
-        x.reserve(1, 9);
-        x.boot(1);
-        x.deliver(0);
-        Due.is("17: its lease before the reserved one", x.lease(2, 2), 1);
-        Due.yes("4: the leased one is reserved for another", x.reserve(0, 2));
-        Nets.loseAll(x);
-        x.boot(1);
-        x.deliver(0);
-        Due.is("17: a lease that is not free", x.lease(9, 2), 1);
-        Due.is("17: no offer of the older", x.lease(2, 2), BootNet.NONE);
     }
 
     private static void requestIsRefused() {

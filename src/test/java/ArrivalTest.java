@@ -19,12 +19,7 @@ public final class ArrivalTest {
     }
 
     private static BootNet net(int lease, int limit, int stations, int high) {
-        BootNet x = new BootNet(lease, limit, 4);
-        x.pool(0, 1, high);
-        for (int i = 0; i < stations; i++) {
-            x.attach(0);
-        }
-        return x;
+        return Nets.net(lease, limit, 4, stations, high);
     }
 
     private static void conflictsAreLimit(int limit) {

@@ -27,10 +27,7 @@ public final class BlockTest {
     }
 
     private static BootNet net(int size) {
-        BootNet x = new BootNet(60, 3, size);
-        x.pool(0, 1, 9);
-        x.attach(0);
-        return x;
+        return Nets.net(60, 3, size, 1, 9);
     }
 
     /** File 0 with so many bytes is the first entry; the READ of the station is message 0. */

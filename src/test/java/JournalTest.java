@@ -4,6 +4,7 @@ public final class JournalTest {
         fifteenAreLeftAsTheyAre();
         notTheLatestOfTheirAddressAreDropped();
         theLatestIsKeptWhereverItStands();
+        whatIsKeptMovesWhole();
         tickNotAboveNowIsDropped(59);
         tickNotAboveNowIsDropped(60);
         tickNotAboveNowIsDropped(61);
@@ -83,6 +84,18 @@ public final class JournalTest {
         x.crash();
         Due.is("journal: the later of the first address", x.lease(1, 1), 62);
         Due.is("journal: the new one of the second", x.lease(2, 1), 64);
+    }
+
+    /** The first record is dropped, so that the second one, of another station, is the first. */
+    private static void whatIsKeptMovesWhole() {
+        BootNet x = twoLeases();
+        request(x, 0, 15);
+        Due.is("journal: one of each and the new one", x.journal(), 3);
+        x.crash();
+        Due.is("journal: the second address's station", x.lease(2, 0), 1);
+        Due.is("journal: its tick", x.lease(2, 1), 61);
+        Due.is("journal: the first address's station", x.lease(1, 0), 0);
+        Due.is("journal: its tick", x.lease(1, 1), 61);
     }
 
     /** The first address's only record is until 60; the second address has fifteen until 61 and later. */

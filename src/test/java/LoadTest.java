@@ -14,14 +14,13 @@ public final class LoadTest {
         doubledDataAndGot();
         loadingBeginsAgainAfterTheAddressIsLost();
         loadedOnceIsEnough();
+        whatHasEndedIsNotLoadedAgain();
+        noAddressGoesBeforeEveryResult();
         Due.end();
     }
 
     private static BootNet net(int lease, int limit, int size) {
-        BootNet x = new BootNet(lease, limit, size);
-        x.pool(0, 1, 9);
-        x.attach(0);
-        return x;
+        return Nets.net(lease, limit, size, 1, 9);
     }
 
     private static void severalEntries() {
@@ -294,6 +293,50 @@ public final class LoadTest {
         Nets.station(x, "15: all is loaded", 0, Nets.RESULT, 2);
         Due.is("16: first", x.image(0, 0), 33);
         Due.is("16: last", x.image(0, 9), 8);
+    }
+
+    /** A list that comes to each result, with one entry of a file of four bytes. */
+    private static BootNet endedWith(int result) {
+        BootNet x = net(12, 1, 5);
+        if (result != 3) {
+            Nets.putAll(x, 0, 1, 2, 3, 4);
+        }
+        x.entry(0, result == 4 ? 5 : 4, result == 5 ? 0 : x.check(0));
+        Nets.bind(x, 0);
+        if (result == 6) {
+            x.alter(0, false);
+        }
+        Nets.settle(x);
+        Nets.ticks(x, 9);
+        Nets.station(x, "12: the lease is over", 0, Nets.STATE, 1);
+        return x;
+    }
+
+    private static void whatHasEndedIsNotLoadedAgain() {
+        for (int result = 2; result <= 6; result++) {
+            BootNet x = endedWith(result);
+            int bytes = x.station(0, Nets.BYTES);
+            Nets.station(x, "12: selecting leaves the result", 0, Nets.RESULT, result);
+            Nets.settle(x);
+            Nets.ticks(x, 3);
+            Nets.station(x, "12: bound again", 0, Nets.STATE, 4);
+            Nets.station(x, "12: the result is not 0, so nothing is loaded", 0, Nets.RESULT, result);
+            Nets.station(x, "12: the bytes stay", 0, Nets.BYTES, bytes);
+            Due.is("12: nothing is read", Nets.underWay(x), 0);
+        }
+    }
+
+    private static void noAddressGoesBeforeEveryResult() {
+        for (int result = 2; result <= 6; result++) {
+            BootNet x = endedWith(result);
+            Nets.ticks(x, 2);
+            Nets.station(x, "12: not yet", 0, Nets.RESULT, result);
+            x.tick();
+            Nets.station(x, "12: failed", 0, Nets.STATE, 7);
+            Nets.station(x, "12: no address", 0, Nets.RESULT, 7);
+            x.boot(0);
+            Nets.station(x, "9: nothing yet", 0, Nets.RESULT, 0);
+        }
     }
 
     private static void loadedOnceIsEnough() {

@@ -3,6 +3,7 @@ public final class MessageTest {
     public static void main(String[] args) {
         anyMessageCanArrive();
         relayBothWays();
+        everyKindOnItsWay();
         alterLoses();
         alterDoubles();
         Due.end();
@@ -52,6 +53,52 @@ public final class MessageTest {
         x.deliver(1);
         Due.is("10: PROBE needs no relay", x.deliver(1), 6);
         Due.is("10: nobody answers", Nets.underWay(x), 1);
+    }
+
+    /** Every kind comes up in this run; on which leg a message is and where it comes to is told by its kind alone. */
+    private static void everyKindOnItsWay() {
+        for (int subnet = 0; subnet <= 2; subnet++) {
+            BootNet x = net(subnet, 1);
+            x.stranger(10 * subnet + 1, true);
+            x.put(0, 1);
+            x.entry(0, 1, x.check(0));
+            x.entry(1, 1, 0);
+            int[] legs = new int[12];
+            int first = subnet == 0 ? 2 : 4;
+            goTheirWay(x, subnet, first, legs);
+            x.crash();
+            goTheirWay(x, subnet, 40, legs);
+            Nets.ticks(x, 3);
+            goTheirWay(x, subnet, 40, legs);
+            for (int kind = 0; kind < 12; kind++) {
+                Due.is("10: legs of kind " + kind + " in subnet " + subnet, legs[kind], isNear(subnet, kind) ? 1 : 3);
+            }
+        }
+    }
+
+    private static boolean isNear(int subnet, int kind) {
+        return subnet == 0 || kind == 6 || kind == 7;
+    }
+
+    /** The oldest message arrives, so often or until none is left; the legs of each kind are noted as bits. */
+    private static void goTheirWay(BootNet x, int subnet, int most, int[] legs) {
+        int[] fields = new int[7];
+        for (int i = 0; i < most; i++) {
+            for (int what = 0; what < 7; what++) {
+                fields[what] = x.message(0, what);
+            }
+            int kind = fields[0];
+            if (kind == BootNet.NONE) {
+                break;
+            }
+            boolean up = kind == 0 || kind == 2 || kind == 5 || kind == 8 || kind == 10;
+            legs[kind] |= 1 << fields[6];
+            Due.is("10: arrives", x.deliver(0), kind);
+            if (!isNear(subnet, kind) && fields[6] == (up ? 0 : 1)) {
+                fields[6] = 1 - fields[6];
+                Nets.message(x, "10: sent on by the relay", Nets.underWay(x) - 1, fields);
+            }
+        }
     }
 
     private static void alterLoses() {

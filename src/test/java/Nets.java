@@ -16,6 +16,16 @@ final class Nets {
     private Nets() {
     }
 
+    /** Stations in subnet 0, whose pool goes from 1 to a high address. */
+    static BootNet net(int lease, int limit, int size, int stations, int high) {
+        BootNet x = new BootNet(lease, limit, size);
+        x.pool(0, 1, high);
+        for (int i = 0; i < stations; i++) {
+            x.attach(0);
+        }
+        return x;
+    }
+
     static void ticks(BootNet x, int n) {
         for (int i = 0; i < n; i++) {
             x.tick();

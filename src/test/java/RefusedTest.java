@@ -41,6 +41,7 @@ public final class RefusedTest {
         leaseWithoutSuchAWhat();
         leaseWhereNoneHolds();
         askingChangesNothing();
+        allArgumentsAtTheEndsOfInt();
         Due.end();
     }
 
@@ -370,6 +371,23 @@ public final class RefusedTest {
         none("17: no lease holds, so no tick", x -> x.lease(19, 1));
         none("17: no offer holds", x -> x.lease(3, 2));
         none("17: no bar holds", x -> x.lease(3, 3));
+    }
+
+    private static void allArgumentsAtTheEndsOfInt() {
+        int[] ends = {Integer.MIN_VALUE, Integer.MAX_VALUE};
+        for (int a : ends) {
+            for (int b : ends) {
+                String both = " of " + a + " and " + b;
+                no("2: pool" + both, x -> x.pool(a, b, b));
+                no("4: reserve" + both, x -> x.reserve(a, b));
+                no("6: put" + both, x -> x.put(a, b));
+                no("7: entry" + both, x -> x.entry(a, b, a));
+                none("14: message" + both, x -> x.message(a, b));
+                none("15: station" + both, x -> x.station(a, b));
+                none("16: image" + both, x -> x.image(a, b));
+                none("17: lease" + both, x -> x.lease(a, b));
+            }
+        }
     }
 
     private static void askingChangesNothing() {

@@ -32,10 +32,7 @@ public final class TickTest {
     }
 
     private static BootNet net(int lease, int limit) {
-        BootNet x = new BootNet(lease, limit, 4);
-        x.pool(0, 1, 9);
-        x.attach(0);
-        return x;
+        return Nets.net(lease, limit, 4, 1, 9);
     }
 
     private static void selectingIsDueUpTo(int limit) {

@@ -23,13 +23,9 @@ public final class UntilTest {
         Due.end();
     }
 
-    /** A pool of so many addresses and three stations; NOW is 2, so that no tick is a lease's length by chance. */
+    /** A pool of so many addresses and two stations; NOW is 2, so that no tick is a lease's length by chance. */
     private static BootNet net(int lease, int high) {
-        BootNet x = new BootNet(lease, 5, 4);
-        x.pool(0, 1, high);
-        for (int i = 0; i < 3; i++) {
-            x.attach(0);
-        }
+        BootNet x = Nets.net(lease, 5, 4, 2, high);
         Nets.ticks(x, 2);
         return x;
     }
