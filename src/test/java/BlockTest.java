@@ -17,9 +17,11 @@ public final class BlockTest {
         dataWithoutAnAddress();
         errorOfAnotherFile();
         errorWhenAllIsLoaded();
+        errorAfterSomeBytes();
         noNextEntry();
         entryComesJustInTime();
         entryComesTooLate();
+        wrongEntryIsGotAndStays();
         lengthIsOneOff();
         checkIsOneBitOff();
         fortyBytesAreNotTooMany();
@@ -346,6 +348,23 @@ public final class BlockTest {
         Nets.station(x, "block: does nothing", 0, Nets.RESULT, 2);
     }
 
+    /** The ERROR is from before the file was there, and comes when one block of it is loaded. */
+    private static void errorAfterSomeBytes() {
+        BootNet x = net(4);
+        x.entry(2, 8, 0);
+        Nets.bind(x, 0);
+        x.alter(0, true);
+        x.deliver(0);
+        Nets.putCounting(x, 2, 8);
+        x.deliver(0);
+        x.deliver(1);
+        Nets.station(x, "block: one block", 0, Nets.BYTES, 4);
+        Due.is("block: ERROR", x.deliver(0), 11);
+        Nets.station(x, "block: a file is not there", 0, Nets.RESULT, 3);
+        Nets.station(x, "block: the bytes stay", 0, Nets.BYTES, 4);
+        Due.is("block: the last of them", x.image(0, 3), 3);
+    }
+
     private static void noNextEntry() {
         for (int entries = 0; entries <= 4; entries++) {
             BootNet x = net(4);
@@ -389,6 +408,23 @@ public final class BlockTest {
         Nets.station(x, "block: is not loaded", 0, Nets.RESULT, 2);
         Nets.station(x, "block: is not loaded", 0, Nets.ENTRY, 0);
         Due.is("block: nothing is sent", Nets.underWay(x), 0);
+    }
+
+    private static void wrongEntryIsGotAndStays() {
+        for (int result = 4; result <= 5; result++) {
+            BootNet x = net(4);
+            Nets.putCounting(x, 0, 3);
+            x.entry(0, result == 4 ? 2 : 3, 1);
+            x.entry(0, 3, x.check(0));
+            Nets.bind(x, 0);
+            Nets.deliver(x, 0, 2);
+            Nets.station(x, "block: wrong", 0, Nets.RESULT, result);
+            Nets.station(x, "block: at the entry that is wrong", 0, Nets.ENTRY, 0);
+            Nets.station(x, "block: its bytes stay", 0, Nets.BYTES, 3);
+            Due.is("block: the last of them", x.image(0, 2), 2);
+            Nets.message(x, "block: GOT all the same", 0, 10, 0, 0, 0, 1, 0, 0);
+            Due.is("block: no READ", Nets.underWay(x), 1);
+        }
     }
 
     private static int resultOf(int size, int bytes, int length, int checkMask) {

@@ -13,6 +13,7 @@ public final class OfferTest {
         reservedOneThatIsOfferedToAnother();
         leastOfTwoLeases();
         leaseThatIsReservedForAnother();
+        requestOfWhatIsReservedForAnother();
         offersToOthersStay();
         olderOfferIsGone();
         offerIsGoneWithTheAck();
@@ -146,6 +147,19 @@ public final class OfferTest {
         x.reserve(1, 1);
         Due.is("offer: another one", offered(x, 0), 2);
         Due.is("offer: leased all the same", x.lease(1, 0), 0);
+    }
+
+    /** What was offered or leased before it was reserved for another can be had, though it is not free. */
+    private static void requestOfWhatIsReservedForAnother() {
+        BootNet x = net(2, 3);
+        x.boot(0);
+        Nets.deliver(x, 0, 2);
+        x.alter(0, true);
+        x.reserve(1, 1);
+        Due.is("offer: REQUEST of what is offered", x.deliver(0), 2);
+        Due.is("offer: ACK", x.message(1, 0), 3);
+        Due.is("offer: REQUEST of what is leased", x.deliver(0), 2);
+        Due.is("offer: ACK", x.message(1, 0), 3);
     }
 
     private static void offersToOthersStay() {
