@@ -15,6 +15,11 @@ public final class FullRowTest {
         readAgainIsLost();
         blockThatIsLostWasSent();
         askThatIsLostWasSent();
+        blockThatIsLostIsATry(false);
+        blockThatIsLostIsATry(true);
+        firstReadIsLost();
+        renewalIsLost();
+        discoverAtTheEndIsLost();
         Due.end();
     }
 
@@ -224,5 +229,75 @@ public final class FullRowTest {
         x.deliver(0);
         Due.is("row: ACK of the older one", x.deliver(LAST), 3);
         Nets.station(x, "row: does nothing", 0, Nets.STATE, 2);
+    }
+
+    /** The row stays full of GOTs of block 1, which is sent again at 3 ticks, in vain, and gone at 6. */
+    private static void blockThatIsLostIsATry(boolean gone) {
+        BootNet x = net(2, 0);
+        Nets.putCounting(x, 0, 5);
+        x.entry(0, 5, x.check(0));
+        Nets.bind(x, 0);
+        Nets.deliver(x, 0, 2);
+        Nets.fillTo(x, 0, 32);
+        Nets.ticks(x, gone ? 6 : 5);
+        Due.is("row: no DATA had room", x.message(LAST, 0), 10);
+        Due.is("row: GOT", x.deliver(0), 10);
+        Due.is("row: the next block", x.message(LAST, 0), gone ? BootNet.NONE : 9);
+    }
+
+    /** Station 0 holds 1 until 20, and copies of its PROBE fill the row. */
+    private static BootNet boundInAFullRow() {
+        BootNet x = Nets.net(20, 3, 4, 1, 9);
+        x.put(0, 1);
+        x.entry(0, 1, x.check(0));
+        x.boot(0);
+        Nets.deliver(x, 0, 4);
+        Nets.fillTo(x, 0, 32);
+        Nets.ticks(x, 3);
+        Nets.station(x, "row: bound", 0, Nets.STATE, 4);
+        return x;
+    }
+
+    private static void firstReadIsLost() {
+        BootNet x = boundInAFullRow();
+        Due.is("row: READ has no room", x.message(LAST, 0), 6);
+        Nets.station(x, "row: it loads all the same", 0, Nets.RESULT, 1);
+        Nets.loseAll(x);
+        Due.is("row: READ is not due", x.tick() + x.tick(), 0);
+        Due.is("row: READ is due", x.tick(), 1);
+        Nets.message(x, "row: READ again", 0, 8, 0, 0, 0, 0, 0, 0);
+    }
+
+    private static void renewalIsLost() {
+        BootNet x = boundInAFullRow();
+        Nets.ticks(x, 7);
+        Due.is("row: REQUEST has no room", x.message(LAST, 0), 6);
+        Nets.station(x, "row: renewing all the same", 0, Nets.STATE, 5);
+        Nets.station(x, "row: with a new number", 0, Nets.NUMBER, 3);
+        Nets.loseAll(x);
+        x.tick();
+        x.tick();
+        Nets.station(x, "row: it does not ask before it is due", 0, Nets.NUMBER, 3);
+        Nets.loseAll(x);
+        Due.is("row: REQUEST is due", x.tick(), 1);
+        Nets.message(x, "row: REQUEST", 0, 2, 0, 4, 1, 0, 0, 0);
+        Nets.deliver(x, 0, 2);
+        Nets.station(x, "row: bound", 0, Nets.STATE, 4);
+        Nets.station(x, "row: until LEASE from the second asking on", 0, Nets.END, 33);
+    }
+
+    /** It asks at 10, 13, 16 and 18, all of it in vain, and selects at 20. */
+    private static void discoverAtTheEndIsLost() {
+        BootNet x = boundInAFullRow();
+        Nets.ticks(x, 16);
+        Nets.station(x, "row: rebinding before the end", 0, Nets.STATE, 6);
+        Due.is("row: the end", x.tick(), 32);
+        Nets.station(x, "row: selecting", 0, Nets.STATE, 1);
+        Nets.station(x, "row: with a new number", 0, Nets.NUMBER, 7);
+        Due.is("row: DISCOVER has no room", x.message(LAST, 0), 6);
+        Nets.loseAll(x);
+        Due.is("row: DISCOVER is not due", x.tick() + x.tick(), 0);
+        Due.is("row: DISCOVER is due", x.tick(), 1);
+        Nets.message(x, "row: DISCOVER again", 0, 0, 0, 7, 0, 0, 0, 0);
     }
 }

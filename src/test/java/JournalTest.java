@@ -11,6 +11,7 @@ public final class JournalTest {
         sixteenLatestOnesFail();
         failedRequestLeavesTheOffer();
         failedRenewalLeavesTheLease();
+        renewalThatFailsEndsTheHolding();
         roomForOneIsEnough();
         crashCountsThem();
         Due.end();
@@ -123,6 +124,28 @@ public final class JournalTest {
      * server, both once more. Station 3 is behind the relay too.
      */
     private static BootNet sixteenLeases() {
+        BootNet x = twoPoolsOfStrangers();
+        x.boot(2);
+        Nets.deliver(x, 0, 2);
+        x.alter(0, true);
+        x.deliver(1);
+        Nets.loseFrom(x, 1);
+        x.tick();
+        for (int i = 0; i < 8; i++) {
+            leaseTheNext(x, 1, 0);
+        }
+        for (int i = 0; i < 6; i++) {
+            leaseTheNext(x, 1, 1);
+        }
+        x.boot(1);
+        Nets.deliver(x, 1, 5);
+        x.alter(1, true);
+        x.deliver(2);
+        Nets.loseFrom(x, 2);
+        return x;
+    }
+
+    private static BootNet twoPoolsOfStrangers() {
         BootNet x = new BootNet(60, 5, 4);
         for (int subnet = 0; subnet <= 1; subnet++) {
             x.pool(subnet, 1, 9);
@@ -133,32 +156,18 @@ public final class JournalTest {
         for (int subnet : new int[] {0, 1, 0, 1}) {
             x.attach(subnet);
         }
-        x.boot(2);
-        Nets.deliver(x, 0, 2);
-        x.alter(0, true);
-        x.deliver(1);
-        Nets.loseFrom(x, 1);
-        x.tick();
-        for (int i = 0; i < 8; i++) {
-            leaseTheNext(x, 0, 7);
-        }
-        for (int i = 0; i < 6; i++) {
-            leaseTheNext(x, 1, 12);
-        }
-        x.boot(1);
-        Nets.deliver(x, 1, 5);
-        x.alter(1, true);
-        x.deliver(2);
-        Nets.loseFrom(x, 2);
         return x;
     }
 
-    /** A station boots and gets the least address that it has not declined before, up to its DECLINE's arrival. */
-    private static void leaseTheNext(BootNet x, int station, int messages) {
+    /**
+     * Station 0, or 1 behind the relay, boots and gets the least address that it has not declined before, up to
+     * its DECLINE's arrival. So many messages were under way, and are again.
+     */
+    private static void leaseTheNext(BootNet x, int underWay, int station) {
         x.boot(station);
-        Nets.deliver(x, 1, messages - 1);
-        Due.is("journal: DECLINE", x.deliver(x.message(1, 0) == 5 ? 1 : 2), 5);
-        Nets.loseFrom(x, 1);
+        Nets.deliver(x, underWay, station == 0 ? 6 : 11);
+        Due.is("journal: DECLINE", x.deliver(station == 0 ? underWay : underWay + 1), 5);
+        Nets.loseFrom(x, underWay);
     }
 
     private static void sixteenLatestOnesFail() {
@@ -196,6 +205,44 @@ public final class JournalTest {
         Due.is("journal: REQUEST", x.deliver(0), 2);
         Nets.message(x, "journal: NAK", 1, 4, 1, x.station(1, Nets.NUMBER), 17, 0, 0, 1);
         Due.is("journal: that one stays too", x.lease(17, 1), 61);
+    }
+
+    /** A station that holds its address finds 16 live records, its own among them, when it renews at 30. */
+    private static void renewalThatFailsEndsTheHolding() {
+        BootNet x = sixteenLeasesOneHeld();
+        Nets.station(x, "journal: it renews", 2, Nets.STATE, 5);
+        int number = x.station(2, Nets.NUMBER);
+        Nets.message(x, "journal: its REQUEST", 0, 2, 2, number, 1, 0, 0, 0);
+        Due.is("journal: REQUEST", x.deliver(0), 2);
+        Nets.message(x, "journal: NAK", 0, 4, 2, number, 1, 0, 0, 0);
+        Due.is("journal: nothing is dropped", x.journal(), 16);
+        Due.is("journal: the lease's tick stays", x.lease(1, 1), 60);
+        Due.is("journal: NAK", x.deliver(0), 4);
+        Nets.station(x, "journal: it selects", 2, Nets.STATE, 1);
+        Nets.station(x, "journal: without an address", 2, Nets.ADDRESS, 0);
+        Due.is("journal: DISCOVER", x.deliver(0), 0);
+        Nets.message(x, "journal: OFFER of what is leased to it", 0, 1, 2, number + 1, 1, 0, 0, 0);
+        Nets.deliver(x, 0, 2);
+        Nets.message(x, "journal: NAK once more", 0, 4, 2, number + 2, 1, 0, 0, 0);
+        Due.is("journal: the offer stays", x.lease(1, 2), 2);
+    }
+
+    /** Station 2 holds 1 until 60; at the other fifteen is a stranger. At 30, its REQUEST alone is under way. */
+    private static BootNet sixteenLeasesOneHeld() {
+        BootNet x = twoPoolsOfStrangers();
+        x.stranger(1, false);
+        x.boot(2);
+        Nets.settle(x);
+        Nets.ticks(x, 3);
+        Nets.station(x, "journal: it holds", 2, Nets.STATE, 4);
+        for (int i = 0; i < 15; i++) {
+            leaseTheNext(x, 0, i < 8 ? 0 : 1);
+        }
+        for (int t = 4; t <= 30; t++) {
+            Nets.loseAll(x);
+            x.tick();
+        }
+        return x;
     }
 
     /** At 60 the first record is dropped, and the other fifteen leave room for one. */
